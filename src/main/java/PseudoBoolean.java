@@ -36,7 +36,7 @@ public final class PseudoBoolean {
     private final LiteralList keptReason = new LiteralList();
     private final int[] costs = new int[VARIABLES];
 
-    /** The models of the constraints that a level had when the next one was opened; the last row in use is the present one. */
+    /** The models that each level had when the next one was opened; the last in use are the present ones. */
     private final ModelSet[] modelsOfLevel = new ModelSet[MOST_LEVELS + 1];
     private final int[] constraintsBelow = new int[MOST_LEVELS];
     private final LiteralList[] decisionsBelow = new LiteralList[MOST_LEVELS];
@@ -81,7 +81,7 @@ public final class PseudoBoolean {
 
     /** Adds the constraint (or both of an equation) that the text buffer holds; returns the first number. */
     public int post() throws IllegalArgumentException, IllegalStateException {
-        readText();
+        closeText(reader.readConstraint());
         requireRoom(reader.isEquation() ? 2 : 1);
         int number = constraintsUsed;
         if (reader.hasLowerBound()) {
@@ -97,7 +97,7 @@ public final class PseudoBoolean {
 
     /** Whether all models fulfill the constraint (or both of an equation) that the text buffer holds. */
     public boolean isImplied() throws IllegalArgumentException {
-        readText();
+        closeText(reader.readConstraint());
         boolean implied = true;
         if (reader.hasLowerBound()) {
             reader.draftLowerBound(draft);
@@ -163,7 +163,7 @@ public final class PseudoBoolean {
         return constraints[c].slackWith(assignment);
     }
 
-    /** How many literals of a constraint must be true at least; its number of terms plus 1 if all are too few. */
+    /** How many literals of a constraint must be true; its number of terms plus 1 if all are too few. */
     public int cardinality(int c) throws IndexOutOfBoundsException {
         requireConstraint(c);
         return constraints[c].leastTrueLiterals();
@@ -522,9 +522,8 @@ public final class PseudoBoolean {
         return mask >= 0 && mask <= GREATEST_MASK;
     }
 
-    /** Reads the text buffer, and empties it also if it has an error. */
-    private void readText() {
-        boolean correct = reader.readConstraint();
+    /** Empties the text buffer, whether the text that was read is correct or not. */
+    private void closeText(boolean correct) {
         positionOfError = correct ? -1 : reader.tokenStart;
         text.length = 0;
         if (!correct) {
@@ -659,7 +658,7 @@ public final class PseudoBoolean {
         }
     }
 
-    /** Reads a text as a constraint: sum, relation and bound. An error lies at the start of the latest token. */
+    /** Reads a text as a constraint. If it has an error, this is at the start of the latest token. */
     private static final class Reader {
         private static final int END = 0;
         private static final int NO_TOKEN = 1;
@@ -845,7 +844,7 @@ public final class PseudoBoolean {
         }
     }
 
-    /** A constraint in normal form, with a coefficient for each literal; those that it does not have are 0. */
+    /** A constraint in normal form, with a coefficient for each literal: 0 if it does not have it. */
     private static final class Constraint {
         final int[] coefficients = new int[LITERALS];
         int degree = 0;
@@ -1151,6 +1150,18 @@ public final class PseudoBoolean {
             return lower[mask & (HALF_SIZE - 1)] + upper[mask >> HALF & (HALF_SIZE - 1)];
         }
 
+        /** Which of the 64 masks with these upper variables have at least a given sum, bit by bit. */
+        long bitsReaching(int upperVariables, long least) {
+            long needed = least - upper[upperVariables & (HALF_SIZE - 1)];
+            long reached = 0;
+            for (int lowerVariables = 0; lowerVariables < HALF_SIZE; lowerVariables++) {
+                if (lower[lowerVariables] >= needed) {
+                    reached |= 1L << lowerVariables;
+                }
+            }
+            return reached;
+        }
+
         void setToFulfillment(Constraint constraint) {
             lower[0] = 0;
             upper[0] = 0;
@@ -1209,31 +1220,20 @@ public final class PseudoBoolean {
 
         void keepReaching(MaskSums sums, long least) {
             for (int word = 0; word < WORDS; word++) {
-                words[word] &= reaching(word, sums, least);
+                words[word] &= sums.bitsReaching(word, least);
             }
         }
 
         boolean allReach(MaskSums sums, long least) {
             for (int word = 0; word < WORDS; word++) {
-                if ((words[word] & ~reaching(word, sums, least)) != 0) {
+                if ((words[word] & ~sums.bitsReaching(word, least)) != 0) {
                     return false;
                 }
             }
             return true;
         }
 
-        /** The bits of a word whose masks have at least a given sum. */
-        private static long reaching(int word, MaskSums sums, long least) {
-            long reached = 0;
-            for (int bit = 0; bit < BITS; bit++) {
-                if (sums.ofMask(word * BITS + bit) >= least) {
-                    reached |= 1L << bit;
-                }
-            }
-            return reached;
-        }
-
-        /** The least mask here that is at least start and has all variables of yes and none of no; -1 if there is none. */
+        /** The least mask from start on that has all variables of yes and none of no; -1 if there is none. */
         int leastFrom(int start, int yes, int no) {
             for (int word = Math.max(0, start / BITS); word < WORDS; word++) {
                 long found = matching(word, yes, no);
@@ -1259,13 +1259,14 @@ public final class PseudoBoolean {
         /** The least of the matching masks whose sum is the least; -1 if there is none. */
         int cheapest(MaskSums sums, int yes, int no) {
             int cheapest = -1;
+            long least = Long.MAX_VALUE;
             for (int word = 0; word < WORDS; word++) {
                 long found = matching(word, yes, no);
                 for (int bit = 0; bit < BITS && found != 0; bit++) {
-                    int mask = word * BITS + bit;
-                    if ((found >> bit & 1) == 1
-                            && (cheapest < 0 || sums.ofMask(mask) < sums.ofMask(cheapest))) {
-                        cheapest = mask;
+                    long sum = sums.ofMask(word * BITS + bit);
+                    if ((found >> bit & 1) == 1 && sum < least) {
+                        cheapest = word * BITS + bit;
+                        least = sum;
                     }
                 }
             }
