@@ -1,3 +1,7 @@
+import java.lang.reflect.InvocationTargetException;
+import java.lang.reflect.Method;
+import java.util.Arrays;
+import java.util.Comparator;
 import java.util.NoSuchElementException;
 
 /** What the tests share: comparing answers, expecting exceptions, and putting texts into the buffer. */
@@ -65,6 +69,33 @@ final class Check {
         System.out.println(text);
     }
 
+    /** Runs each method of a class whose name begins with promise, so that none is forgotten. */
+    static void runPromises(Class<?> tests) {
+        Method[] methods = tests.getDeclaredMethods();
+        Arrays.sort(methods, Comparator.comparing(Method::getName));
+        for (Method method : methods) {
+            if (method.getName().startsWith("promise") && method.getParameterCount() == 0) {
+                run(method);
+            }
+        }
+        finish();
+    }
+
+    private static void run(Method method) {
+        int wrongBefore = wrong;
+        try {
+            method.setAccessible(true);
+            method.invoke(null);
+        } catch (InvocationTargetException e) {
+            complain("threw " + e.getCause());
+        } catch (IllegalAccessException e) {
+            complain("cannot be called: " + e);
+        }
+        if (wrong != wrongBefore) {
+            System.out.println("    .. in " + method.getName());
+        }
+    }
+
     static void finish() {
         System.out.println(wrong + " of " + checks + " checks are wrong");
         if (wrong != 0) {
@@ -120,6 +151,36 @@ final class Check {
             text.append((char) x.outputByte(i));
         }
         return text.toString();
+    }
+
+    /** Expects that this text is posted, and what the constraints then are. */
+    static void posts(String text, String... due) {
+        PseudoBoolean x = new PseudoBoolean();
+        equal("post of \"" + text + "\"", post(x, text), 0);
+        equal("constraints of \"" + text + "\"", x.constraintCount(), due.length);
+        for (int c = 0; c < due.length && c < x.constraintCount(); c++) {
+            equal("\"" + text + "\"", written(x, c), due[c]);
+        }
+        equal("errorPosition of \"" + text + "\"", x.errorPosition(), -1);
+        hasEmptyBuffer("post", x);
+    }
+
+    /** Expects that this text is an error for post and for isImplied, and where. */
+    static void refuses(String text, int position) {
+        PseudoBoolean x = new PseudoBoolean();
+        put(x, text);
+        fails("post of \"" + text + "\"", ARGUMENT, x::post);
+        equal("error of \"" + text + "\"", x.errorPosition(), position);
+        hasEmptyBuffer("post of an error", x);
+        put(x, text);
+        fails("isImplied of \"" + text + "\"", ARGUMENT, () -> x.isImplied() ? 1 : 0);
+        equal("error of \"" + text + "\" for isImplied", x.errorPosition(), position);
+        hasEmptyBuffer("isImplied of an error", x);
+        equal("constraints behind errors", x.constraintCount(), 0);
+    }
+
+    static void hasEmptyBuffer(String what, PseudoBoolean x) {
+        fails("trim(1) behind " + what, ARGUMENT, () -> x.trim(1));
     }
 
     static String repeated(String part, int times) {
