@@ -141,6 +141,21 @@ final class LevelEdgesTest {
         Check.equal("its text", Check.written(x, 0), "b >= 1");
     }
 
+    static void promise41PopLeavesNothingForTheNextConstraintWithThatNumber() {
+        PseudoBoolean x = new PseudoBoolean();
+        x.push();
+        Check.post(x, "9a + 9~l >= 12");
+        x.pop();
+        Check.equal("the next number", Check.post(x, "b + c >= 1"), 0);
+        Check.equal("its text", Check.written(x, 0), "b + c >= 1");
+        Check.equal("its slack", x.slack(0), 1);
+        Check.equal("its terms", x.termCount(0), 2);
+        Check.equal("the coefficient of a", x.coefficient(0, 0), 0);
+        Check.equal("a", x.value(0), -1);
+        Check.no("a and b", x.exclude(0, 2));
+        Check.equal("models", x.modelCount(), 3072);
+    }
+
     static void promise41PopRestoresTwelveDecisions() {
         PseudoBoolean x = new PseudoBoolean();
         for (int variable = 0; variable < 12; variable++) {
@@ -267,6 +282,28 @@ final class LevelEdgesTest {
         long due = checksum(0, 12, 8,
                 1, 0, 1, 0, 1, 0, 1, 0, 1, 0, 1, 0, 1, 0, 0, 0, 0, 0, 0, 0, 0, 0, 0, 0);
         Check.equal("digest", x.digest(), due);
+    }
+
+    /** The 512th call is still promised. */
+    static void promise42DigestAsTheLastCallOfAnObject() {
+        PseudoBoolean x = new PseudoBoolean();
+        for (int call = 1; call < 512; call += 7) {
+            x.push();
+            x.setCost(call % 12, call);
+            x.group(call % 24);
+            x.addGroup();
+            x.decide(call % 24);
+            x.pop();
+            x.digest();
+        }
+        long[] numbers = new long[27];
+        for (int variable = 0; variable < 12; variable++) {
+            numbers[3 + 2 * variable] = -1;
+        }
+        for (int call = 1; call < 512; call += 7) {
+            numbers[4 + 2 * (call % 12)] = call;
+        }
+        Check.equal("digest", x.digest(), checksum(numbers));
     }
 
     static void promise42DigestInAConflict() {

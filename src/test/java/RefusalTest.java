@@ -98,7 +98,8 @@ final class RefusalTest {
 
     private static void refusedFeedAt(int length) {
         String text = "h + i >= 1" + Check.repeated(" ", length - 10);
-        refused("feed at " + length, Check.STATE, () -> Scenes.busyWith(text), x -> x.feed(1, 2, 3, 4, 5));
+        refused("feed at " + length, Check.STATE,
+                () -> Scenes.busyWith(text), x -> x.feed(1, 2, 3, 4, 5));
         PseudoBoolean x = Scenes.busyWith(text);
         Check.fails("feed at " + length, Check.STATE, () -> x.feed(1, 2, 3, 4, 5));
         Check.fails("no byte more than " + length, Check.ARGUMENT, () -> x.trim(length + 1));
@@ -115,23 +116,30 @@ final class RefusalTest {
     }
 
     static void promise04PostOfAnError() {
-        refusedText("an error", Check.ARGUMENT, 4, () -> Scenes.busyWith("a + >= 1"), PseudoBoolean::post);
+        refusedText("an error", Check.ARGUMENT, 4,
+                () -> Scenes.busyWith("a + >= 1"), PseudoBoolean::post);
         refusedText("no text", Check.ARGUMENT, 0, () -> Scenes.busyWith(""), PseudoBoolean::post);
         refusedText("no text", Check.ARGUMENT, 0, PseudoBoolean::new, PseudoBoolean::post);
-        refusedText("a correct beginning", Check.ARGUMENT, 4, () -> Scenes.busyWith("a = "), PseudoBoolean::post);
-        refusedText("a correct text and more", Check.ARGUMENT, 6, () -> Scenes.busyWith("a >= 1a"), PseudoBoolean::post);
+        refusedText("a correct beginning", Check.ARGUMENT, 4,
+                () -> Scenes.busyWith("a = "), PseudoBoolean::post);
+        refusedText("a correct text and more", Check.ARGUMENT, 6,
+                () -> Scenes.busyWith("a >= 1a"), PseudoBoolean::post);
     }
 
     static void promise04PostWithoutRoom() {
         refusedText("one at 60", Check.STATE, -1, Scenes::full, PseudoBoolean::post);
-        refusedText("two at 60", Check.STATE, -1, () -> Scenes.filledWith(60, "a = 1"), PseudoBoolean::post);
+        refusedText("two at 60", Check.STATE, -1,
+                () -> Scenes.filledWith(60, "a = 1"), PseudoBoolean::post);
         // Not even the first one of the two is added.
-        refusedText("two at 59", Check.STATE, -1, () -> Scenes.filledWith(59, "a = 1"), PseudoBoolean::post);
+        refusedText("two at 59", Check.STATE, -1,
+                () -> Scenes.filledWith(59, "a = 1"), PseudoBoolean::post);
     }
 
     static void promise04PostOfAnErrorComesBeforeTheRoom() {
-        refusedText("an error at 60", Check.ARGUMENT, 5, () -> Scenes.filledWith(60, "a >= b"), PseudoBoolean::post);
-        refusedText("an error in two at 59", Check.ARGUMENT, 4, () -> Scenes.filledWith(59, "a = b"), PseudoBoolean::post);
+        refusedText("an error at 60", Check.ARGUMENT, 5,
+                () -> Scenes.filledWith(60, "a >= b"), PseudoBoolean::post);
+        refusedText("an error in two at 59", Check.ARGUMENT, 4,
+                () -> Scenes.filledWith(59, "a = b"), PseudoBoolean::post);
     }
 
     static void promise05IsImplied() {
@@ -139,7 +147,8 @@ final class RefusalTest {
         refusedText("an error", Check.ARGUMENT, 2, () -> Scenes.busyWith("a ? 1"), isImplied);
         refusedText("no text", Check.ARGUMENT, 0, () -> Scenes.busyWith(""), isImplied);
         refusedText("no text", Check.ARGUMENT, 0, PseudoBoolean::new, isImplied);
-        refusedText("an error at 60", Check.ARGUMENT, 2, () -> Scenes.filledWith(60, "a ? 1"), isImplied);
+        refusedText("an error at 60", Check.ARGUMENT, 2,
+                () -> Scenes.filledWith(60, "a ? 1"), isImplied);
         refusedText("an error without models", Check.ARGUMENT, 5,
                 () -> Scenes.withText(Scenes.withoutModels(), "a >= "), isImplied);
     }
@@ -189,14 +198,17 @@ final class RefusalTest {
     static void promise16Multiple() {
         for (int factor : new int[] {0, 1001, -1, LEAST, GREATEST}) {
             refused("multiple by " + factor, Check.ARGUMENT, Scenes::busy, x -> x.multiple(0, factor));
-            refused("multiple by " + factor + " at 60", Check.ARGUMENT, Scenes::full, x -> x.multiple(0, factor));
-            refused("too great by " + factor, Check.ARGUMENT, Scenes::greatNumbers, x -> x.multiple(6, factor));
+            refused("multiple by " + factor + " at 60", Check.ARGUMENT,
+                    Scenes::full, x -> x.multiple(0, factor));
+            refused("too great by " + factor, Check.ARGUMENT,
+                    Scenes::greatNumbers, x -> x.multiple(6, factor));
             refused("too great by " + factor + " at 60", Check.ARGUMENT,
                     Scenes::fullOfGreatNumbers, x -> x.multiple(6, factor));
         }
         refused("multiple at 60", Check.STATE, Scenes::full, x -> x.multiple(0, 1));
         refused("multiple too great", Check.ARITHMETIC, Scenes::greatNumbers, x -> x.multiple(6, 2));
-        refused("multiple too great at 60", Check.STATE, Scenes::fullOfGreatNumbers, x -> x.multiple(6, 2));
+        refused("multiple too great at 60", Check.STATE,
+                Scenes::fullOfGreatNumbers, x -> x.multiple(6, 2));
     }
 
     static void promise17Quotient() {
@@ -204,7 +216,8 @@ final class RefusalTest {
         refusesNumbers("quotient by 0", (x, c) -> x.quotient(c, 0));
         for (int divisor : new int[] {0, -1, LEAST}) {
             refused("quotient by " + divisor, Check.ARGUMENT, Scenes::busy, x -> x.quotient(0, divisor));
-            refused("quotient by " + divisor + " at 60", Check.ARGUMENT, Scenes::full, x -> x.quotient(0, divisor));
+            refused("quotient by " + divisor + " at 60", Check.ARGUMENT,
+                    Scenes::full, x -> x.quotient(0, divisor));
         }
         refused("quotient at 60", Check.STATE, Scenes::full, x -> x.quotient(0, 1));
     }
@@ -218,8 +231,10 @@ final class RefusalTest {
         refusesNumbers("weakening", (x, c) -> x.weakening(c, 0));
         refusesNumbers("weakening by a literal that is not there", (x, c) -> x.weakening(c, 11));
         for (int variable : new int[] {-1, 12, LEAST, GREATEST}) {
-            refused("weakening by " + variable, Check.INDEX, Scenes::busy, x -> x.weakening(0, variable));
-            refused("weakening by " + variable + " at 60", Check.INDEX, Scenes::full, x -> x.weakening(0, variable));
+            refused("weakening by " + variable, Check.INDEX,
+                    Scenes::busy, x -> x.weakening(0, variable));
+            refused("weakening by " + variable + " at 60", Check.INDEX,
+                    Scenes::full, x -> x.weakening(0, variable));
         }
         refused("weakening by l", Check.ARGUMENT, Scenes::busy, x -> x.weakening(0, 11));
         refused("weakening by l at 60", Check.ARGUMENT, Scenes::full, x -> x.weakening(0, 11));
@@ -232,28 +247,36 @@ final class RefusalTest {
         refusesNumbers("resolvent of the second", (x, d) -> x.resolvent(0, d, 0));
         refusesNumbers("resolvent by a variable that is not there", (x, d) -> x.resolvent(0, d, 11));
         for (int variable : new int[] {-1, 12, LEAST, GREATEST}) {
-            refused("resolvent by " + variable, Check.INDEX, Scenes::busy, x -> x.resolvent(0, 1, variable));
-            refused("resolvent by " + variable + " at 60", Check.INDEX, Scenes::full, x -> x.resolvent(0, 1, variable));
+            refused("resolvent by " + variable, Check.INDEX,
+                    Scenes::busy, x -> x.resolvent(0, 1, variable));
+            refused("resolvent by " + variable + " at 60", Check.INDEX,
+                    Scenes::full, x -> x.resolvent(0, 1, variable));
         }
     }
 
     static void promise20Resolvent() {
         refused("resolvent by l", Check.ARGUMENT, Scenes::busy, x -> x.resolvent(0, 1, 11));
-        refused("resolvent by c, which only one has", Check.ARGUMENT, Scenes::busy, x -> x.resolvent(0, 1, 2));
-        refused("resolvent by d, which only one has", Check.ARGUMENT, Scenes::busy, x -> x.resolvent(0, 1, 3));
+        refused("resolvent by c, which only one has", Check.ARGUMENT,
+                Scenes::busy, x -> x.resolvent(0, 1, 2));
+        refused("resolvent by d, which only one has", Check.ARGUMENT,
+                Scenes::busy, x -> x.resolvent(0, 1, 3));
         refused("resolvent with itself", Check.ARGUMENT, Scenes::busy, x -> x.resolvent(0, 0, 0));
         refused("resolvent by l at 60", Check.ARGUMENT, Scenes::full, x -> x.resolvent(0, 1, 11));
         refused("resolvent at 60", Check.STATE, Scenes::full, x -> x.resolvent(0, 1, 0));
-        refused("resolvent too great", Check.ARITHMETIC, Scenes::greatNumbers, x -> x.resolvent(6, 8, 0));
-        refused("resolvent too great", Check.ARITHMETIC, Scenes::greatNumbers, x -> x.resolvent(8, 6, 0));
-        refused("resolvent too great at 60", Check.STATE, Scenes::fullOfGreatNumbers, x -> x.resolvent(6, 8, 0));
+        refused("resolvent too great", Check.ARITHMETIC,
+                Scenes::greatNumbers, x -> x.resolvent(6, 8, 0));
+        refused("resolvent too great", Check.ARITHMETIC,
+                Scenes::greatNumbers, x -> x.resolvent(8, 6, 0));
+        refused("resolvent too great at 60", Check.STATE,
+                Scenes::fullOfGreatNumbers, x -> x.resolvent(6, 8, 0));
         refused("the same literal in great numbers", Check.ARGUMENT,
                 Scenes::fullOfGreatNumbers, x -> x.resolvent(7, 8, 0));
     }
 
     static void promise21CardinalityConstraint() {
         refusesNumbers("cardinalityConstraint", PseudoBoolean::cardinalityConstraint);
-        refused("cardinalityConstraint at 60", Check.STATE, Scenes::full, x -> x.cardinalityConstraint(0));
+        refused("cardinalityConstraint at 60", Check.STATE,
+                Scenes::full, x -> x.cardinalityConstraint(0));
     }
 
     // ---- exclusions
@@ -284,7 +307,8 @@ final class RefusalTest {
     static void promise25AddGroup() {
         refused("addGroup of none", Check.ELEMENT, PseudoBoolean::new, PseudoBoolean::addGroup);
         refused("addGroup at 60", Check.STATE, Scenes::full, PseudoBoolean::addGroup);
-        refused("addGroup of none at 60", Check.ELEMENT, RefusalTest::sixtyWithoutGroup, PseudoBoolean::addGroup);
+        refused("addGroup of none at 60", Check.ELEMENT,
+                RefusalTest::sixtyWithoutGroup, PseudoBoolean::addGroup);
     }
 
     private static PseudoBoolean sixtyWithoutGroup() {
@@ -304,7 +328,8 @@ final class RefusalTest {
             refused("decide(" + literal + ") again", Check.STATE, Scenes::busy, x -> x.decide(literal));
         }
         for (int literal : new int[] {0, 6, 9, 23}) {
-            refused("decide(" + literal + ") in a conflict", Check.STATE, Scenes::conflicting, x -> x.decide(literal));
+            refused("decide(" + literal + ") in a conflict", Check.STATE,
+                    Scenes::conflicting, x -> x.decide(literal));
         }
     }
 
@@ -329,7 +354,8 @@ final class RefusalTest {
             return x;
         };
         refused("undo of none in a level", Check.STATE, withoutDecisions, PseudoBoolean::undo);
-        refused("undo of none in a conflict", Check.STATE, () -> Check.with("0a >= 1"), PseudoBoolean::undo);
+        refused("undo of none in a conflict", Check.STATE,
+                () -> Check.with("0a >= 1"), PseudoBoolean::undo);
     }
 
     /** A method that takes a variable: 0 to 11. */
@@ -347,9 +373,11 @@ final class RefusalTest {
 
     static void promise32NextModel() {
         for (int mask : new int[] {-1, 4096, LEAST, GREATEST}) {
-            refused("nextModel(" + mask + ")", Check.ARGUMENT, PseudoBoolean::new, x -> x.nextModel(mask));
+            refused("nextModel(" + mask + ")", Check.ARGUMENT,
+                    PseudoBoolean::new, x -> x.nextModel(mask));
             refused("nextModel(" + mask + ")", Check.ARGUMENT, Scenes::busy, x -> x.nextModel(mask));
-            refused("nextModel(" + mask + ") of none", Check.ARGUMENT, Scenes::withoutModels, x -> x.nextModel(mask));
+            refused("nextModel(" + mask + ") of none", Check.ARGUMENT,
+                    Scenes::withoutModels, x -> x.nextModel(mask));
         }
     }
 
@@ -373,8 +401,10 @@ final class RefusalTest {
     }
 
     static void promise37CheapestModel() {
-        refused("cheapestModel of none", Check.ELEMENT, Scenes::withoutModels, PseudoBoolean::cheapestModel);
-        refused("cheapestModel in a conflict", Check.ELEMENT, Scenes::conflicting, PseudoBoolean::cheapestModel);
+        refused("cheapestModel of none", Check.ELEMENT,
+                Scenes::withoutModels, PseudoBoolean::cheapestModel);
+        refused("cheapestModel in a conflict", Check.ELEMENT,
+                Scenes::conflicting, PseudoBoolean::cheapestModel);
     }
 
     static void promise38ExplainOfWrongMasks() {

@@ -498,6 +498,16 @@ final class SearchEdgesTest {
         Check.fails("-1", Check.INDEX, () -> x.isForced(-1) ? 1 : 0);
     }
 
+    static void promise34IsForcedOfEachLiteralAlone() {
+        for (int forced = 0; forced < 24; forced++) {
+            PseudoBoolean x = new PseudoBoolean();
+            x.decide(forced);
+            for (int literal = 0; literal < 24; literal++) {
+                Check.equal(literal + " by " + forced, x.isForced(literal) ? 1 : 0, literal == forced ? 1 : 0);
+            }
+        }
+    }
+
     static void promise34IsForcedWithoutModels() {
         PseudoBoolean x = withoutModels();
         for (int literal = 0; literal < 24; literal++) {
@@ -678,6 +688,17 @@ final class SearchEdgesTest {
         x.undo();
         Check.fails("b alone has a model", Check.ELEMENT, () -> x.explain(2, 0));
         hasReason(x, 3, 0, 0);
+    }
+
+    /** Of two reasons the one that remains has the later literals, as the earlier ones go first. */
+    static void promise38ExplainRemovesTheFirstLiteralFirst() {
+        PseudoBoolean x = Check.with("a + b <= 1", "k + l <= 1");
+        hasReason(x, 3075, 0, 20, 22);
+        PseudoBoolean y = Check.with("a + l <= 1", "b + l <= 1", "a + ~c <= 1");
+        hasReason(y, 2051, 0, 2, 22);
+        hasReason(y, 2051, 4, 2, 22);
+        hasReason(y, 2049, 4, 0, 22);
+        hasReason(y, 1, 4, 0, 5);
     }
 
     static void promise38ExplainOfTheOnlyLiteral() {
