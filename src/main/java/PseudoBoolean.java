@@ -1259,12 +1259,12 @@ public final class PseudoBoolean {
         /** The least of the matching masks whose sum is the least; -1 if there is none. */
         int cheapest(MaskSums sums, int yes, int no) {
             int cheapest = -1;
-            long least = Long.MAX_VALUE;
+            long least = 0;
             for (int word = 0; word < WORDS; word++) {
                 long found = matching(word, yes, no);
                 for (int bit = 0; bit < BITS && found != 0; bit++) {
                     long sum = sums.ofMask(word * BITS + bit);
-                    if ((found >> bit & 1) == 1 && sum < least) {
+                    if ((found >> bit & 1) == 1 && (cheapest < 0 || sum < least)) {
                         cheapest = word * BITS + bit;
                         least = sum;
                     }
